@@ -30,8 +30,8 @@ public final class TideVault {
     private static final int HALF_OPEN_MINUTES = 5;
     private static final int OPEN_MINUTES = 10;
 
-    // A delay of 60 and the opening itself take 62 low times at most, and a
-    // period of at most 480 has at least 10 of them: 7 periods are enough.
+    // A delay of 60 and the opening itself take 61 low times at most, and each
+    // period has at least 10 of them: 7 periods are enough for every box.
     private static final int LONGEST_WAIT = 8 * LONGEST_PERIOD;
 
     private static final char CLOSED = 'c';
