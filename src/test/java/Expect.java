@@ -4,7 +4,7 @@ import java.util.Objects;
 final class Expect {
     private static int wrong = 0;
     private static int checks = 0;
-    private static String promise = "";
+    private static String place = "";
 
     private Expect() {
     }
@@ -15,7 +15,24 @@ final class Expect {
     }
 
     static void promise(int number, String text) {
-        promise = number + " (" + text + ")";
+        place = "promise " + number + " (" + text + ")";
+    }
+
+    /**
+     * Runs the test of sentences of the document: "P7 .." stands in promise 7, "T .." before the
+     * promises. What stops one test does not stop the next one.
+     */
+    static void holds(Call test, String... sentences) {
+        place = String.join(" / ", sentences);
+        int before = checks;
+        try {
+            test.call();
+        } catch (RuntimeException | AssertionError e) {
+            report("stopped by " + e);
+        }
+        if (checks == before) {
+            report("nothing was checked");
+        }
     }
 
     static void due(Object want, Object got) {
@@ -44,9 +61,16 @@ final class Expect {
 
     static void report(String what) {
         wrong++;
-        StackTraceElement[] stack = new Throwable().getStackTrace();
-        StackTraceElement place = stack[Math.min(2, stack.length - 1)];
-        System.out.println("promise " + promise + ", line " + place.getLineNumber() + ": " + what);
+        System.out.println(place + ", line " + lineOfTest() + ": " + what);
+    }
+
+    private static int lineOfTest() {
+        for (StackTraceElement element : new Throwable().getStackTrace()) {
+            if (!element.getClassName().startsWith("Expect")) {
+                return element.getLineNumber();
+            }
+        }
+        return 0;
     }
 
     static void finish() {

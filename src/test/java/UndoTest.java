@@ -135,10 +135,10 @@ public final class UndoTest {
         vault.pass(4);
         vault.turnKey(2, 1, 101);
         vault.pass(1);
-        String before = everything(vault);
+        String before = Vaults.seen(vault);
         vault.pass(200);
         vault.undo();
-        Expect.due(before, everything(vault));
+        Expect.due(before, Vaults.seen(vault));
         vault.pass(4);
         Expect.due('c', vault.status(2));
         vault.undo();
@@ -147,26 +147,9 @@ public final class UndoTest {
         Vaults.tellWrong(vault, 0, 1);
         vault.undo();
         vault.undo();
-        Expect.due(before, everything(vault));
+        Expect.due(before, Vaults.seen(vault));
         Expect.due(100, vault.setTide(100, 50));
         Expect.due('o', vault.turnKey(2, 0, 100));
-    }
-
-    private static String everything(TideVault vault) {
-        StringBuilder text = new StringBuilder();
-        text.append(vault.time()).append(' ').append(vault.alarm()).append(' ').append(vault.isLowTide());
-        text.append(' ').append(vault.lowMinutes(777)).append(' ').append(vault.totalValueByLedger());
-        text.append(' ').append(vault.failureRate()).append(' ').append(Vaults.events(vault));
-        for (int i = 0; i < vault.holders(); i++) {
-            text.append(" h").append(vault.attempts(i)).append(',').append(vault.minutesLocked(i));
-        }
-        for (int i = 0; i < vault.boxes(); i++) {
-            text.append(' ').append(Vaults.line(vault, vault.writeBox(i)));
-            if (vault.status(i) == 'p') {
-                text.append(vault.remainingDelay(i));
-            }
-        }
-        return text.toString();
     }
 
     private static void saveAndRestore() {
@@ -178,7 +161,7 @@ public final class UndoTest {
         Vaults.turnBoth(vault, 0);
         vault.deposit(0, 12);
         vault.addBox(1, 2, 3);
-        String later = everything(vault);
+        String later = Vaults.seen(vault);
         Expect.promise(49, "restore");
         Expect.due(1, vault.restore());
         Expect.due('c', vault.status(0));
@@ -195,13 +178,13 @@ public final class UndoTest {
         Vaults.run(vault, "wait 9");
         Expect.promise(49, "restore, and the state stays saved");
         Expect.due(2, vault.restore());
-        Expect.due(later, everything(vault));
+        Expect.due(later, Vaults.seen(vault));
         Expect.throwing(STATE, vault::undo);
         vault.pass(100);
         Expect.due(0, vault.undo());
         vault.pass(100);
         Expect.due(2, vault.restore());
-        Expect.due(later, everything(vault));
+        Expect.due(later, Vaults.seen(vault));
         Expect.throwing(STATE, vault::undo);
         vault.writeBox(0);
         vault.restore();
