@@ -47,6 +47,8 @@ public final class UndoEdgesTest {
         Expect.holds(UndoEdgesTest::lockOutIsUndone, state);
         Expect.holds(UndoEdgesTest::timesSinceAreUndone, state);
         Expect.holds(UndoEdgesTest::codesAreUndone, state);
+        Expect.holds(UndoEdgesTest::otherBoxesAreReplaced, state);
+        Expect.holds(UndoEdgesTest::droppedEventsComeBack, state);
     }
 
     private static void snapshots() {
@@ -395,6 +397,48 @@ public final class UndoEdgesTest {
         vault.restore();
         Expect.due(0, vault.changeCode(0, 100, 7));
         Expect.throwing(CODE, () -> vault.changeCode(0, 100, 8));
+    }
+
+    private static void otherBoxesAreReplaced() {
+        TideVault vault = Vaults.withHolders(4);
+        vault.addBox(0, 1, 60);
+        vault.save();
+        vault.undo();
+        vault.addBox(2, 3, 7);
+        vault.restore();
+        Expect.due(1, vault.otherHolder(0, 0));
+        Expect.due(0, vault.otherHolder(0, 1));
+        Expect.throwing(ARGUMENT, () -> vault.otherHolder(0, 2));
+        Expect.throwing(ARGUMENT, () -> vault.otherHolder(0, 3));
+        Expect.due('p', Vaults.turnBoth(vault, 0));
+        Expect.due(60, vault.remainingDelay(0));
+    }
+
+    private static void droppedEventsComeBack() {
+        TideVault vault = Vaults.withBoxes(0, 0);
+        Vaults.turnBoth(vault, 1);
+        for (int i = 1; i <= 5; i++) {
+            vault.deposit(1, i);
+        }
+        vault.pass(1);
+        for (int i = 1; i <= 5; i++) {
+            vault.withdraw(1);
+        }
+        vault.deposit(1, 9);
+        String before = "o1@0 d1@0 d1@0 d1@0 d1@0 d1@0 w1@1 w1@1 w1@1 w1@1 w1@1 d1@1";
+        Expect.due(before, Vaults.events(vault));
+        vault.save();
+        vault.pass(2);
+        Vaults.tellWrong(vault, 2, 2);
+        Vaults.turnBoth(vault, 0);
+        Expect.due("d1@0 d1@0 d1@0 w1@1 w1@1 w1@1 w1@1 w1@1 d1@1 f2@3 f2@3 o0@3", Vaults.events(vault));
+        for (int i = 0; i < 5; i++) {
+            vault.undo();
+        }
+        Expect.due(before, Vaults.events(vault));
+        Vaults.turnBoth(vault, 0);
+        vault.restore();
+        Expect.due(before, Vaults.events(vault));
     }
 
     private static void nothingSaved() {
