@@ -34,6 +34,9 @@ public final class TideVault {
     // period has at least 10 of them: 7 periods are enough for every box.
     private static final int LONGEST_WAIT = 8 * LONGEST_PERIOD;
 
+    // This step and its halves add up to more than the longest wait.
+    private static final int FIRST_STEP = 2048;
+
     private static final char CLOSED = 'c';
     private static final char HALF_OPEN = 'h';
     private static final char PENDING = 'p';
@@ -711,17 +714,13 @@ public final class TideVault {
             // With nothing to count down the present time is not the opening
             // one, even if it is low: after setTide the box waits a minute.
             int lowTimes = remaining == 0 && isLow() ? 2 : remaining + 1;
-            int from = 1;
-            int to = LONGEST_WAIT;
-            while (from < to) {
-                int middle = from + (to - from) / 2;
-                if (tide.lowByFormula(time, middle + 1) >= lowTimes) {
-                    to = middle;
-                } else {
-                    from = middle + 1;
+            int pendingFor = 0;
+            for (int step = FIRST_STEP; step > 0; step /= 2) {
+                if (tide.lowByFormula(time, pendingFor + step + 1) < lowTimes) {
+                    pendingFor += step;
                 }
             }
-            return from;
+            return pendingFor + 1;
         }
 
         int waitForOpening(int box) {
